@@ -333,8 +333,7 @@ public final class GooseShares {
         int start = now.starts[flight];
         int found = start;
         for (int cell = 0; cell < now.cells(); cell++) {
-            int gain = now.distance(start, cell) - now.distance(start, found);
-            if (hasBit(bits, cell) && (gain > 0 || gain == 0 && cell < found)) {
+            if (hasBit(bits, cell) && now.distance(start, cell) > now.distance(start, found)) {
                 found = cell;
             }
         }
@@ -1428,11 +1427,10 @@ public final class GooseShares {
 
         int heardIn(int cell) {
             int bits = land.within[cell];
+            int cells = land.cells();
             int sum = 0;
-            for (int other = 0; other < land.cells(); other++) {
-                if (hasBit(bits, other)) {
-                    sum += geeseOver[other];
-                }
+            for (int other = 0; other < cells; other++) {
+                sum += (bits >> other & 1) * geeseOver[other];
             }
             return sum;
         }

@@ -164,6 +164,9 @@ public final class LampTest {
         Check.due("cut of nothing", y.cut(1, 1), 1);
         Check.due("cut of two alike", y.cut(2, 0), 1);
         Check.due("cut of two alike", y.cut(2, 1), 2);
+        GooseShares first = Check.with(LAND + "member at 4 wants 0 pays 0;member at 3 wants 2 pays 0;");
+        Check.due("cut of nothing, the first", first.cut(0, 0), 0);
+        Check.due("cut of the one", first.cut(1, 0), 1);
         GooseShares z = Check.with(THREE);
         Check.due("all can not be served", z.cut(0, 0), -1);
         Check.due("all can not be served", z.cut(2, 1), -1);

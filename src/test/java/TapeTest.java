@@ -5,6 +5,7 @@ public final class TapeTest {
     public static void main(String[] args) {
         newObject();
         feedAndEnd();
+        fullTape();
         fedBytesAreHighestFirst();
         linesAndCounts();
         landInPlaceOfAnother();
@@ -51,6 +52,19 @@ public final class TapeTest {
         Check.due("end(1)", x.end(1), -1);
         Check.due("end(MIN)", x.end(Integer.MIN_VALUE), -1);
         Check.due("end(MAX)", x.end(Integer.MAX_VALUE), -1);
+    }
+
+    private static void fullTape() {
+        // 39 bytes and 76 lamps of ten, one blank.
+        String full = HEAD + "lamp at 7;".repeat(76) + " ";
+        Check.due("a full tape", Check.land(new GooseShares(), full), 77);
+        isFaulty(full.substring(0, 799) + "x", 1, 799);
+        isFaulty(full.substring(0, 799) + "7", 1, 799);
+        isFaulty(full.substring(0, 798) + "  ", 1, 800);
+        isFaulty(full.substring(0, 797) + "777", 2, 797);
+        isFaulty(full.substring(0, 795) + "aaaaa", 1, 794);
+        isFaulty("land wide 5" + " ".repeat(789), 1, 800);
+        Check.due("800 blanks", Check.land(new GooseShares(), " ".repeat(800)), 0);
     }
 
     private static void fedBytesAreHighestFirst() {
@@ -119,6 +133,8 @@ public final class TapeTest {
         isFaulty("lands wide 5", 1, 0);
         isFaulty("lan wide 5", 1, 0);
         isFaulty("Land wide 5", 1, 0);
+        isFaulty("xand wide 5", 1, 0);
+        isFaulty("lanz wide 5", 1, 0);
         isFaulty(";", 1, 0);
         isFaulty("5", 1, 0);
         isFaulty("land high 4", 1, 5);
