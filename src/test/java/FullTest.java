@@ -9,6 +9,7 @@ public final class FullTest {
     public static void main(String[] args) {
         fullLand();
         lesserLandBehindIt();
+        fewerFlightsBehindIt();
         noLandBehindIt();
         threeLampsFromTheFirstCell();
         leastOfTheFirstGroup();
@@ -84,6 +85,19 @@ public final class FullTest {
         Check.row(x, 0, 0, 0, 1);
         Check.due("began", x.began(0), 5);
         Check.due("who", x.who(0), -1);
+    }
+
+    private static void fewerFlightsBehindIt() {
+        // The second flight of the fuller land would be heard in 9 and on its way to 5, were it still there.
+        GooseShares x = Check.with(FULL);
+        Check.due("fewer flights", Check.land(x, "land wide 5 high 4 law 2 ear 0 odds 0;flight at 0 heads 1 geese 1;"
+                + "member at 9 wants 1 pays 1;"), 3);
+        Check.due("heard(0)", x.heard(0), 0);
+        Check.due("ears(7)", x.ears(7), 0);
+        Check.due("served()", x.served(), 0);
+        Check.due("loud()", x.loud(), 0);
+        Check.due("drawn(1, 1)", x.drawn(1, 1), 0);
+        Check.due("fewest(1)", x.fewest(1), -1);
     }
 
     private static void noLandBehindIt() {

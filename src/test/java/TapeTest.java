@@ -135,6 +135,9 @@ public final class TapeTest {
         isFaulty("Land wide 5", 1, 0);
         isFaulty("xand wide 5", 1, 0);
         isFaulty("lanz wide 5", 1, 0);
+        // The longest word: a letter behind it makes it another word, not a second token.
+        isFaulty("landz wide 5", 1, 0);
+        isFaulty("landa wide 5", 1, 0);
         isFaulty(";", 1, 0);
         isFaulty("5", 1, 0);
         isFaulty("land high 4", 1, 5);
