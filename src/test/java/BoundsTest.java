@@ -43,7 +43,7 @@ public final class BoundsTest {
         new Place("the hall", () -> dressed(Check.with(Edge.HALL)), 6, 2, 3),
         new Place("the fullest land", () -> dressed(Check.with(full())), 20, 4, 6)};
 
-    public static void main(String[] args) throws ReflectiveOperationException {
+    public static void main(String[] args) {
         for (Place place : PLACES) {
             for (Face face : FACES) {
                 standing(place, face);
@@ -107,8 +107,7 @@ public final class BoundsTest {
         for (Kind kind : face.kinds) {
             stands &= greatest(kind, place) >= least(kind);
         }
-        boolean game = face.name.equals("rests") || face.name.equals("has");
-        return stands && (!game || place.members > 1);
+        return stands && (!isGame(face) || place.members > 1);
     }
 
     private static int[] leastOf(Face face) {
@@ -116,7 +115,7 @@ public final class BoundsTest {
         for (int k = 0; k < values.length; k++) {
             values[k] = least(face.kinds[k]);
         }
-        if (face.name.equals("rests") || face.name.equals("has")) {
+        if (isGame(face)) {
             values[1] = 1;
         }
         return values;
@@ -136,16 +135,17 @@ public final class BoundsTest {
             ask(place, face, values, false);
         }
         values[k] = high;
-        if (canStand(place, face) && !(k == 0 && values.length > 1 && high == values[1] && isGame(face))) {
+        if (canStand(place, face)) {
             ask(place, face, values, true);
         }
     }
 
+    /** Two members, not one twice; every place here that has members has more than two. */
     private static boolean isGame(Face face) {
         return face.name.equals("rests") || face.name.equals("has");
     }
 
-    private static void ask(Place place, Face face, int[] values, boolean stands) throws IllegalStateException {
+    private static void ask(Place place, Face face, int[] values, boolean stands) {
         String call = place.name + ": " + face.name + Arrays.toString(values);
         if (stands) {
             Check.due(call + " is refused", answer(face, place.make.made(), values) == face.refusal ? 1 : 0, 0);

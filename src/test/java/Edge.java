@@ -1,6 +1,6 @@
 /** For tests of edges: all that can be seen of an object, so that a call can be shown to have left it as it was. */
 final class Edge {
-    /** A land with all kinds of lines, six cells, two flights, three members. Both lamps that acts put there are kept as acts. */
+    /** A land with all kinds of lines: six cells, two flights, three members. */
     static final String HALL = "land wide 3 high 2 law 0 ear 1 odds 5;flight at 0 heads 1 geese 2;flight at 5 heads 3 geese 3;"
             + "member at 2 wants 2 pays 7;member at 3 wants 0 pays 4;member at 4 wants 99 pays 9;lamp at 1;";
 
@@ -125,7 +125,7 @@ final class Edge {
         return least;
     }
 
-    /** A land of this head with lamps in these cells. */
+    /** Lines of a land's text. */
     static String lamps(int... cells) {
         StringBuilder b = new StringBuilder();
         for (int cell : cells) {

@@ -17,6 +17,7 @@ public final class EdgeActTest {
         p68Back();
         p68NoLand();
         imagesAreApart();
+        imagesHaveTheirActs();
         Check.finish();
     }
 
@@ -341,5 +342,35 @@ public final class EdgeActTest {
                 x.anew();
             }
         }
+    }
+
+    /** The acts that an image has are taken back as they were done, whatever was done in their place meanwhile. */
+    private static void imagesHaveTheirActs() {
+        GooseShares x = made();
+        x.light(5, 0);
+        x.turn(1, 2);
+        x.light(0, 1);
+        x.image(0);
+        x.anew();
+        x.turn(0, 3);
+        x.light(7, 1);
+        x.turn(0, 2);
+        x.image(1);
+        Check.due("P68 back(0)", x.back(0), 0);
+        Check.due("P61 undo", x.undo(), 2);
+        Check.due("P8 lamps()", x.lamps(), 0);
+        Check.due("P61 undo", x.undo(), 1);
+        Check.due("P6 heads", x.flight(1, 1), 3);
+        Check.due("P6 heads", x.flight(0, 1), 1);
+        Check.due("P61 undo", x.undo(), 0);
+        Check.due("P8 lamps()", x.lamps(), 32);
+        Check.due("P68 back(1)", x.back(1), 0);
+        Check.due("P61 undo", x.undo(), 2);
+        Check.due("P6 heads", x.flight(0, 1), 3);
+        Check.due("P61 undo", x.undo(), 1);
+        Check.due("P8 lamps()", x.lamps(), 32);
+        Check.due("P62 anew", x.anew(), 1);
+        Check.due("P6 heads", x.flight(0, 1), 1);
+        Check.due("P6 heads", x.flight(1, 1), 3);
     }
 }

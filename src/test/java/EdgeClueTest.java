@@ -70,6 +70,10 @@ public final class EdgeClueTest {
         sight(Long.MIN_VALUE, 0, 0, -2);
         sight(0, Long.MAX_VALUE, 0, -2);
         sight(0, 0, Long.MIN_VALUE, -2);
+        // A number is looked at in its own place: the one flight at step 40, the last cell.
+        GooseShares one = Check.with(Edge.head(5, 4, 0, 0, 0) + Edge.flight(19, 1, 1));
+        Check.row(one, 0, 0, 0, 0, 19, 0, 40, -1);
+        Check.due("P41 one flight twice", one.laws(0), 15);
         // None such, though an earlier one does not fit already.
         GooseShares x = Check.with(ROW);
         Check.row(x, 0, 0, 0, 0, 1, 2, 0, 0);
@@ -198,6 +202,15 @@ public final class EdgeClueTest {
         GooseShares x = Check.with(ROW);
         Check.row(x, 0, 0, 0, 0, 0, 1, 2, 0);
         Check.due("P43 none fits, one is none such", x.began(0), -2);
+        // A number is looked at in its own place: one member alone told twice, the last of six.
+        GooseShares one = Check.with(Edge.head(3, 1, 0, 0, 0) + Edge.member(0, 0, 0));
+        Check.row(one, 0, 0, 0, 1, 0, 1);
+        Check.due("P43 one member twice", one.began(0), 6);
+        GooseShares six = Check.with(Edge.head(3, 1, 0, 0, 0) + Edge.member(0, 0, 0).repeat(6));
+        Check.row(six, 0, 0, 5, 1, 4, 1);
+        Check.due("P43 the last of six", six.began(0), 6);
+        Check.row(six, 0, 0, 5, 1, 6, 1);
+        Check.due("P43 a seventh", six.began(0), -2);
         GooseShares none = Check.with(Edge.head(3, 1, 0, 0, 0) + Edge.flight(0, 1, 1));
         Check.row(none, 0, 0, 0, 0);
         Check.due("P43 no member at all", none.began(0), -2);
@@ -264,6 +277,9 @@ public final class EdgeClueTest {
         // At the ear's edge: all that come within one cell.
         began(Edge.head(3, 1, 0, 1, 0) + Edge.member(0, 0, 0), 9, 7, 0, 1);
         began(Edge.head(3, 1, 0, 1, 0) + Edge.member(0, 0, 0), 3, 4, 0, 0);
+        // By a lamp at 0, back: of those from 0 only the one that would go up comes to 1.
+        began(Edge.head(1, 2, 2, 0, 0) + Edge.member(1, 0, 0) + Edge.lamps(0), 5, 3, 0, 1);
+        began(Edge.head(1, 2, 2, 0, 0) + Edge.member(1, 0, 0) + Edge.lamps(0), 3, 1, 0, 0);
         // None at all.
         began(Edge.head(3, 1, 0, 8, 0) + Edge.member(0, 0, 0), 0, 0, 0, 0);
         began(Edge.head(3, 1, 0, 8, 0) + Edge.member(0, 0, 0), 12, 7, 0, 1);

@@ -48,6 +48,8 @@ public final class EdgeShareTest {
     private static void p49Home() {
         // Alike for both: the least row, the first member in the least cell.
         homes(Edge.member(3, 1, 5) + Edge.member(1, 1, 5), 10, 1, 3);
+        homes(Edge.member(1, 1, 5) + Edge.member(3, 1, 5), 10, 1, 3);
+        homes(Edge.member(1, 1, 5) + Edge.member(3, 1, 5) + Edge.member(2, 1, 5), 15, 1, 2, 3);
         // The first takes the least cell only if all others still pay the most.
         homes(Edge.member(3, 1, 5) + Edge.member(1, 4, 5), 10, 1, 3);
         homes(Edge.member(1, 4, 5) + Edge.member(3, 1, 5), 10, 3, 1);
@@ -58,6 +60,13 @@ public final class EdgeShareTest {
         GooseShares x = Check.with(STAIR + Edge.member(3, 1, 5) + Edge.member(1, 1, 5));
         x.home(0);
         Check.due("P49 they stay where they are", x.member(0, 0), 3);
+        // Asked again when less is to be had, and in a land of fewer members.
+        GooseShares again = Check.with(STAIR + Edge.member(3, 1, 50).repeat(6));
+        Check.due("P48 six of fifty", again.homes(), 300);
+        again.rate(5, 1);
+        Check.due("P48 one of them pays less", again.homes(), 251);
+        Check.land(again, STAIR + Edge.member(3, 1, 5).repeat(2));
+        Check.due("P48 two of five", again.homes(), 10);
         // By lamps as now: the first row is left at once.
         GooseShares lit = Check.with(STAIR + Edge.member(3, 3, 5) + Edge.member(5, 1, 5) + Edge.lamps(0));
         Check.due("P48 by the lamp 5 hears one", lit.homes(), 10);
@@ -86,6 +95,7 @@ public final class EdgeShareTest {
         GooseShares x = Check.with(STAIR + members);
         Check.due("P50 swaps() of " + members, x.swaps(), many);
         Check.due("P51 swap() of " + members, x.swap(), first);
+        Check.due("P51 swap() asked first of " + members, Check.with(STAIR + members).swap(), first);
     }
 
     private static void p51Swap() {

@@ -14,6 +14,7 @@ public final class EdgeSkyTest {
         turning();
         fourSides();
         distances();
+        earsOfLandBehindLand();
         p9AtP10Heads();
         p11OutToP13Way();
         p14OverToP18Ears();
@@ -84,6 +85,22 @@ public final class EdgeSkyTest {
                     int far = Math.abs(cell / 5 - place[0] / 5) + Math.abs(cell % 5 - place[0] % 5);
                     Check.due("III ear " + ear + " from " + place[0] + " to " + cell, x.ears(cell), far <= ear ? 3 : 0);
                 }
+            }
+        }
+    }
+
+    /** In one object land behind land, from the widest ear to none and back. */
+    private static void earsOfLandBehindLand() {
+        GooseShares x = new GooseShares();
+        for (int ear : new int[] {8, 0, 3, 1, 7, 2}) {
+            Check.land(x, Edge.head(5, 4, 0, ear, 0) + Edge.flight(0, 0, 1) + Edge.member(8, 1, 1));
+            Check.due("III ear " + ear + " at 8", x.heard(0), ear >= 4 ? 1 : 0);
+            for (int cell = 0; cell < 20; cell++) {
+                Check.due("III ear " + ear + " at " + cell, x.ears(cell), cell / 5 + cell % 5 <= ear ? 1 : 0);
+            }
+            Check.land(x, Edge.head(2, 3, 0, ear, 0) + Edge.flight(0, 0, 1));
+            for (int cell = 0; cell < 6; cell++) {
+                Check.due("III of a narrow land, ear " + ear + " at " + cell, x.ears(cell), cell / 2 + cell % 2 <= ear ? 1 : 0);
             }
         }
     }
