@@ -768,6 +768,7 @@ public final class GooseShares {
 
     private static int partOf(int above, int below, int what) {
         int divisor = commonDivisor(above, below);
+        // Below is 1 at least, so this never is; it would tell 0 / 1.
         if (divisor < 1) {
             return what;
         }
